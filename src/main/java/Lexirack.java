@@ -288,7 +288,8 @@ public final class Lexirack {
         if (!isGoing()) {
             throw new IllegalStateException("no game goes on");
         }
-        if (!hasPlay(index)) {
+        makeList();
+        if (!list.has(index)) {
             throw new NoSuchElementException("no such play");
         }
         switch (what) {
@@ -313,7 +314,8 @@ public final class Lexirack {
         if (!isGoing()) {
             throw new IllegalStateException("no game goes on");
         }
-        if (!hasPlay(index) || place < 0 || place >= list.unpack(index, codes)) {
+        makeList();
+        if (!list.has(index) || place < 0 || place >= list.unpack(index, codes)) {
             throw new NoSuchElementException("no such play or tile");
         }
         return signOf(at(codes, place));
@@ -360,7 +362,8 @@ public final class Lexirack {
         if (!isGoing()) {
             throw new IllegalStateException("no game goes on");
         }
-        if (!hasPlay(index)) {
+        makeList();
+        if (!list.has(index)) {
             throw new NoSuchElementException("no such play");
         }
         layListed(index);
@@ -627,7 +630,11 @@ public final class Lexirack {
         if (!game.hasItsTiles() || !game.hasItsPoints()) {
             return false;
         }
-        return game.isFinished() || isListSound();
+        if (game.isFinished()) {
+            return true;
+        }
+        makeList();
+        return isListSound();
     }
 
     // What the face shares.
@@ -642,11 +649,6 @@ public final class Lexirack {
             list.sort();
             isListed = true;
         }
-    }
-
-    private boolean hasPlay(int index) {
-        makeList();
-        return index >= 0 && index < list.count;
     }
 
     private void layListed(int index) {
@@ -686,7 +688,6 @@ public final class Lexirack {
     }
 
     private boolean isListSound() {
-        makeList();
         for (int index = 0; index < list.count; index++) {
             int count = list.unpack(index, codes);
             if (!game.canLay(list.cellAt(index), list.stepAt(index), codes, count)) {
@@ -1199,8 +1200,12 @@ public final class Lexirack {
 
         int firstOf(int cell, int step) {
             int first = cell;
-            for (int tried = 0; tried < MOST_SIDE && tileAt(first - step) != 0; tried++) {
-                first -= step;
+            for (int tried = 0; tried < MOST_SIDE; tried++) {
+                int before = first - step;
+                if (before < 0 || before >= tiles.length || tiles[before] == 0) {
+                    return first;
+                }
+                first = before;
             }
             return first;
         }
@@ -1436,6 +1441,10 @@ public final class Lexirack {
             count++;
         }
 
+        boolean has(int index) {
+            return index >= 0 && index < count;
+        }
+
         int pointsAt(int index) {
             return MOST_POINTS - (int) (keyAt(index) >>> 43);
         }
@@ -1625,26 +1634,18 @@ public final class Lexirack {
         /** The letters that the words across a cell allow, a bit each; found when first asked for. */
         private int maskAt(int cell) {
             int mask = at(masks, cell);
-            if (mask < 0) {
-                mask = findMask(cell);
-                put(masks, cell, mask);
+            if (mask >= 0) {
+                return mask;
             }
-            return mask;
-        }
-
-        private int findMask(int cell) {
-            int across = lay.across();
-            if (field.tileAt(cell - across) == 0 && field.tileAt(cell + across) == 0) {
-                return (1 << LETTERS) - 1;
-            }
-            int mask = 0;
+            mask = 0;
             for (int letter = 0; letter < LETTERS; letter++) {
                 field.setTile(cell, letter + 1, true);
-                if (field.isRowLawful(cell, across, graph)) {
+                if (field.isRowLawful(cell, lay.across(), graph)) {
                     mask |= 1 << letter;
                 }
             }
             field.setTile(cell, 0, false);
+            put(masks, cell, mask);
             return mask;
         }
     }

@@ -1,0 +1,365 @@
+import java.lang.reflect.InvocationTargetException;
+import java.lang.reflect.Method;
+import java.util.ArrayList;
+import java.util.HashMap;
+import java.util.List;
+import java.util.Map;
+import java.util.Random;
+
+/** Random runs of calls, each held against Naive, which does what the document says by trying everything. */
+public final class FuzzTest {
+    private static final int MOST_CALLS = 512;
+    private static final Map<String, Method> FACE = methodsOf(Lexirack.class);
+    private static final Map<String, Method> PLAIN = methodsOf(Naive.class);
+    private static final Map<String, Integer> tally = new HashMap<>();
+
+    private final Random random;
+    private final Lexirack got = new Lexirack();
+    private final Naive due = new Naive();
+    private final List<String> log = new ArrayList<>();
+    private int calls = 0;
+    private int letters;
+    private boolean isWrong = false;
+
+    private FuzzTest(long seed) {
+        random = new Random(seed);
+    }
+
+    public static void main(String[] args) {
+        int runs = args.length > 0 ? Integer.parseInt(args[0]) : 1500;
+        long from = args.length > 1 ? Long.parseLong(args[1]) : 1;
+        int wrong = 0;
+        for (long seed = from; seed < from + runs && wrong < 3; seed++) {
+            FuzzTest run = new FuzzTest(seed);
+            run.go();
+            if (run.isWrong) {
+                wrong++;
+                System.out.println("seed " + seed + ":\n" + String.join("\n", run.log));
+            }
+        }
+        if (args.length > 2) {
+            tally.entrySet().stream().sorted(Map.Entry.comparingByKey())
+                .forEach(each -> System.out.println(each.getKey() + " " + each.getValue()));
+        }
+        System.out.println(wrong == 0 ? "FuzzTest: all as due" : "FuzzTest: " + wrong + " runs not as due");
+        if (wrong != 0) {
+            System.exit(1);
+        }
+    }
+
+    private static Map<String, Method> methodsOf(Class<?> kind) {
+        Map<String, Method> methods = new HashMap<>();
+        for (Method method : kind.getDeclaredMethods()) {
+            if (!java.lang.reflect.Modifier.isPrivate(method.getModifiers())) {
+                methods.put(method.getName(), method);
+            }
+        }
+        return methods;
+    }
+
+    private static Object answer(Map<String, Method> face, Object whom, String name, Object[] given) {
+        try {
+            return face.get(name).invoke(whom, given);
+        } catch (InvocationTargetException thrown) {
+            Throwable cause = thrown.getCause();
+            if (cause instanceof Naive.TooMuch) {
+                return null;
+            }
+            StackTraceElement[] trace = cause.getStackTrace();
+            boolean isThrown = trace.length > 0 && !trace[0].getClassName().startsWith("java.");
+            return isThrown ? cause.getClass().getName() : "of itself " + cause;
+        } catch (IllegalAccessException thrown) {
+            throw new IllegalStateException(thrown);
+        }
+    }
+
+    /** The answer as a number, or Integer.MIN_VALUE behind an exception. */
+    private int call(String name, Object... given) {
+        if (isWrong || calls >= MOST_CALLS) {
+            return Integer.MIN_VALUE;
+        }
+        calls++;
+        Object second = answer(PLAIN, due, name, given);
+        Object first = answer(FACE, got, name, given);
+        String text = name + java.util.Arrays.toString(given) + " answered " + first;
+        log.add(text);
+        String class0 = name + " " + (first instanceof String ? first : "answers");
+        tally.merge(second == null ? name + " too much" : class0, 1, Integer::sum);
+        if (second != null && !first.equals(second)) {
+            log.add("due is " + second);
+            isWrong = true;
+        }
+        if (name.equals("isSound") && !Boolean.TRUE.equals(first)) {
+            isWrong = true;
+        }
+        if (first instanceof Integer) {
+            return (Integer) first;
+        }
+        if (first instanceof Character) {
+            return (Character) first;
+        }
+        if (first instanceof Boolean) {
+            return (Boolean) first ? 1 : 0;
+        }
+        return Integer.MIN_VALUE;
+    }
+
+    private boolean oneIn(int many) {
+        return random.nextInt(many) == 0;
+    }
+
+    private int between(int least, int most) {
+        return least + random.nextInt(most - least + 1);
+    }
+
+    private char anyLetter() {
+        return (char) ('a' + random.nextInt(letters));
+    }
+
+    private char anyKind() {
+        return oneIn(40) ? "ijA!@Z".charAt(random.nextInt(6)) : oneIn(6) ? '?' : oneIn(4) ? (char) between('a', 'h') : anyLetter();
+    }
+
+    private char anySign() {
+        return oneIn(60) ? "i`@I!~".charAt(random.nextInt(6)) : oneIn(8) ? '?' : oneIn(6) ? Character.toUpperCase(anyLetter()) : anyLetter();
+    }
+
+    private int player() {
+        return oneIn(25) ? between(-2, 3) : between(0, 1);
+    }
+
+    private void typeWord() {
+        call("wipe");
+        int size = oneIn(10) ? between(1, 9) : oneIn(3) ? between(2, 7) : between(2, 3);
+        for (int k = 0; k < size; k++) {
+            call("type", oneIn(60) ? anySign() : anyLetter());
+        }
+    }
+
+    private void addWords(int most) {
+        for (int k = 0; k < most; k++) {
+            typeWord();
+            boolean isOften = !oneIn(4);
+            call("word", isOften ? 0 : between(-1, 10), isOften ? 9 : between(-1, 10));
+        }
+    }
+
+    private void setTiles() {
+        boolean isFew = oneIn(2);
+        for (char letter = 'a'; letter <= 'h'; letter++) {
+            boolean isUsed = letter < 'a' + letters;
+            int most = isFew ? 2 : oneIn(10) ? 12 : 4;
+            if (!oneIn(30)) {
+                call("letter", letter, between(0, 10), isUsed ? between(0, most) : 0);
+            }
+        }
+        call("letter", '?', between(-5, 20), oneIn(3) ? between(0, 3) : oneIn(2) ? 1 : 0);
+    }
+
+    private void setBoard() {
+        if (oneIn(2)) {
+            call("board", between(3, oneIn(4) ? 9 : 5), between(3, oneIn(4) ? 9 : 5));
+        }
+        int many = between(0, 8);
+        for (int k = 0; k < many; k++) {
+            call("cell", between(0, 5), between(0, 5), oneIn(20) ? 'x' : "..ddttDDTT#".charAt(random.nextInt(11)));
+        }
+        if (oneIn(4)) {
+            call("start", between(-1, 5), between(0, 4));
+        }
+    }
+
+    private void begin() {
+        char house = oneIn(60) ? 'x' : "vsdf".charAt(random.nextInt(4));
+        int full = oneIn(40) ? between(-1, 9) : oneIn(2) ? between(1, 3) : between(2, 7);
+        call("begin", full, house, oneIn(2) ? random.nextInt() : between(-100, 100));
+    }
+
+    private void go() {
+        letters = oneIn(3) ? between(2, 8) : between(1, 4);
+        addWords(oneIn(12) ? 60 : between(0, 14));
+        if (oneIn(3)) {
+            call("edition", between(0, 9));
+        }
+        for (int k = between(0, 6); k > 0; k--) {
+            call("weight", anyKind(), between(-21, 21));
+        }
+        setTiles();
+        setBoard();
+        begin();
+        while (calls < MOST_CALLS && !isWrong) {
+            step();
+        }
+    }
+
+    private void step() {
+        int what = random.nextInt(100);
+        if (what < 30) {
+            makeTurn();
+        } else if (what < 40) {
+            lookAtList();
+        } else if (what < 55) {
+            lookAtGame();
+        } else if (what < 62) {
+            call("challenge");
+        } else if (what < 68) {
+            lookAtEnd();
+        } else if (what < 73) {
+            lookAtBook();
+        } else if (what < 78) {
+            changeBook();
+        } else if (what < 84) {
+            lookAtSheet();
+        } else if (what < 88) {
+            lookAtRatings();
+        } else if (what < 92) {
+            call("spend", player(), oneIn(20) ? between(-2, 4000) : between(0, 700));
+            call("time", oneIn(20) ? between(-2, 4000) : between(0, 900));
+        } else if (what < 95) {
+            if (oneIn(3)) {
+                setTiles();
+            }
+            if (oneIn(3)) {
+                setBoard();
+            }
+            call("letter", anyKind(), between(-1, 11), between(-1, 13));
+            call("weight", anyKind(), between(-21, 21));
+        } else if (what < 97) {
+            if (oneIn(2)) {
+                begin();
+            }
+        } else {
+            call("isSound");
+        }
+    }
+
+    private void makeTurn() {
+        int many = call("plays");
+        int how = random.nextInt(20);
+        if (how < 7 && many > 0) {
+            call("playListed", oneIn(30) ? many : oneIn(2) ? 0 : random.nextInt(many));
+        } else if (how < 10 && many > 0) {
+            typePlay(random.nextInt(many));
+        } else if (how < 14) {
+            typeFromRack(between(1, 4));
+            call("play", between(0, 4), between(0, 4), oneIn(2));
+        } else if (how < 16) {
+            typeFromRack(between(0, 3));
+            call("exchange");
+        } else if (how < 17) {
+            for (int k = between(0, 9); k > 0; k--) {
+                call("type", anySign());
+            }
+            call(oneIn(2) ? "exchange" : "wipe");
+            call("play", between(-1, 5), between(-1, 5), oneIn(2));
+        } else {
+            call("pass");
+        }
+    }
+
+    private void typePlay(int index) {
+        call("wipe");
+        int tiles = call("playAt", index, 'n');
+        for (int k = 0; k < tiles; k++) {
+            int sign = call("playTile", index, k);
+            if (sign > 0) {
+                call("type", (char) sign);
+            }
+        }
+        int x = call("playAt", index, 'x');
+        int y = call("playAt", index, 'y');
+        int d = call("playAt", index, 'd');
+        call("play", x, y, oneIn(10) ? d == 0 : d == 1);
+    }
+
+    private void typeFromRack(int size) {
+        call("wipe");
+        int mover = call("mover");
+        for (int tries = 0, typed = 0; tries < 12 && typed < size && mover >= 0; tries++) {
+            char kind = oneIn(4) ? '?' : anyLetter();
+            if (call("rack", mover, kind) > 0) {
+                call("type", kind == '?' && !oneIn(8) ? Character.toUpperCase(anyLetter()) : kind);
+                typed++;
+            }
+        }
+    }
+
+    private void lookAtList() {
+        int many = Math.max(0, call("plays"));
+        call("bestByLeave");
+        for (int k = 0; k < 4; k++) {
+            int index = oneIn(20) ? between(-1, many + 1) : many == 0 ? 0 : random.nextInt(many);
+            for (char what : "xydsnw".toCharArray()) {
+                call("playAt", index, what);
+            }
+            call("playTile", index, between(oneIn(20) ? -1 : 0, oneIn(4) ? 7 : 1));
+            if (oneIn(10)) {
+                call("playAt", index, 'q');
+            }
+        }
+    }
+
+    private void lookAtGame() {
+        call("checksum");
+        call("bag");
+        call("isOver");
+        call("score", player());
+        call("rack", player(), anyKind());
+        call("tile", between(oneIn(20) ? -1 : 0, 5), between(0, 5));
+        call("covered");
+        call("meanPoints");
+        call("mover");
+    }
+
+    private void lookAtEnd() {
+        call("value");
+        call("solved");
+        call("holds", anyKind(), oneIn(2));
+        call("holds", anyKind(), oneIn(2));
+    }
+
+    private void lookAtBook() {
+        call("words");
+        call("nodes");
+        typeWord();
+        call("isWord");
+        call("hooks", oneIn(2));
+        call("type", anySign());
+        call("anagrams", oneIn(2));
+        call("leave");
+        call("hooks", oneIn(2));
+    }
+
+    private void changeBook() {
+        if (oneIn(2)) {
+            addWords(1);
+        } else if (oneIn(3)) {
+            call("edition", oneIn(20) ? 10 : between(0, 9));
+        } else {
+            typeWord();
+            call("strike");
+        }
+    }
+
+    private void lookAtSheet() {
+        int turns = Math.max(0, call("turns"));
+        int turn = oneIn(20) ? between(-1, turns) : turns == 0 ? 0 : random.nextInt(turns);
+        for (char what : "psk".toCharArray()) {
+            call("turnAt", turn, what);
+        }
+        if (oneIn(2)) {
+            call("sheet", turn, oneIn(20) ? between(-1, 1001) : oneIn(2) ? 0 : between(0, 30));
+        }
+        call("fault");
+        call("sheetSum", player());
+        if (oneIn(10)) {
+            call("turnAt", turn, 'x');
+        }
+    }
+
+    private void lookAtRatings() {
+        call("sit", player(), oneIn(20) ? between(-1, 7) : between(0, 5));
+        call("rate");
+        call("rating", oneIn(20) ? between(-1, 7) : between(0, 5));
+    }
+}
