@@ -101,7 +101,7 @@ public final class Lexirack {
         }
         book.enter(pack, first, last);
         row.clear();
-        isListed = false;
+        forget();
         return book.count;
     }
 
@@ -112,7 +112,7 @@ public final class Lexirack {
         }
         book.remove(place);
         row.clear();
-        isListed = false;
+        forget();
         return book.count;
     }
 
@@ -122,7 +122,7 @@ public final class Lexirack {
         }
         int before = book.present;
         book.turnTo(edition);
-        isListed = false;
+        forget();
         return before;
     }
 
@@ -198,7 +198,7 @@ public final class Lexirack {
         }
         kit.makeBoard(columns, rows);
         game.isBegun = false;
-        isListed = false;
+        forget();
         return columns * rows;
     }
 
@@ -224,7 +224,7 @@ public final class Lexirack {
         }
         int before = 100 * columnOf(kit.start) + rowOf(kit.start);
         kit.start = cellOf(column, row);
-        isListed = false;
+        forget();
         return before;
     }
 
@@ -238,7 +238,7 @@ public final class Lexirack {
             throw new IllegalArgumentException("no such house");
         }
         game.open(full, house, seed);
-        isListed = false;
+        forget();
         return sum(game.bag);
     }
 
@@ -354,7 +354,7 @@ public final class Lexirack {
             throw new UnsupportedOperationException("this cannot be played");
         }
         this.row.clear();
-        isListed = false;
+        forget();
         return game.stand();
     }
 
@@ -367,7 +367,7 @@ public final class Lexirack {
             throw new NoSuchElementException("no such play");
         }
         layListed(index);
-        isListed = false;
+        forget();
         return game.stand();
     }
 
@@ -378,7 +378,7 @@ public final class Lexirack {
         if (!game.canChallenge()) {
             throw new UnsupportedOperationException("nothing to challenge");
         }
-        isListed = false;
+        forget();
         return game.judge(book.freshGraph());
     }
 
@@ -393,7 +393,7 @@ public final class Lexirack {
         int count = row.count;
         game.swap(left, count);
         row.clear();
-        isListed = false;
+        forget();
         return count;
     }
 
@@ -402,7 +402,7 @@ public final class Lexirack {
             throw new IllegalStateException("no game goes on");
         }
         game.endTurn(PASSED, 0);
-        isListed = false;
+        forget();
         return game.log.idle();
     }
 
@@ -641,6 +641,12 @@ public final class Lexirack {
 
     private boolean isGoing() {
         return game.isBegun && !game.isFinished();
+    }
+
+    /** For calls that change what the list and the value of the position are made from. */
+    private void forget() {
+        isListed = false;
+        solver.isSolved = false;
     }
 
     private void makeList() {
@@ -1661,7 +1667,9 @@ public final class Lexirack {
         private final Lay[] lays = new Lay[LEVELS];
         private final int[] codes = new int[MOST_LAID];
         private int picked;
+        private int worth;
         int choice;
+        boolean isSolved;
 
         Solver(Game game, Finder finder) {
             this.game = game;
@@ -1673,8 +1681,12 @@ public final class Lexirack {
         }
 
         int solve() {
-            choice = -1;
-            return weigh(game.mover, game.log.idle(), -FAR, FAR, 0);
+            if (!isSolved) {
+                choice = -1;
+                worth = weigh(game.mover, game.log.idle(), -FAR, FAR, 0);
+                isSolved = true;
+            }
+            return worth;
         }
 
         /**
@@ -1707,25 +1719,21 @@ public final class Lexirack {
         /** The greatest worth of a play, exact between the bounds; far below if there is none. */
         private int findBest(int player, int low, int high, int level) {
             int best = -FAR;
-            picked = -1;
             int first = -1;
+            picked = -1;
             Plays list = level >= 0 && level < lists.length ? lists[level] : null;
-            Lay lay = level >= 0 && level < lays.length ? lays[level] : null;
-            if (list == null || lay == null) {
+            if (list == null) {
                 return best;
             }
             int[] rack = game.rackOf(player);
+            int held = sum(rack);
+            int end = 2 * game.worthOf(1 - player);
             finder.find(list, rack, game.kit.start);
             list.sort();
             for (int index = 0; index < list.count && best < high; index++) {
                 int points = list.pointsAt(index);
-                lay.lay(list.cellAt(index), list.stepAt(index), codes, list.unpack(index, codes));
-                lay.settle();
-                lay.changeCounts(rack, -1);
-                int worth = sum(rack) == 0 ? points + 2 * game.worthOf(1 - player)
-                    : points - weigh(1 - player, 0, points - high, points - Math.max(low, best), level + 1);
-                lay.changeCounts(rack, 1);
-                lay.lift();
+                int worth = list.unpack(index, codes) == held ? points + end
+                    : points - weighBehind(player, index, points - high, points - Math.max(low, best), level);
                 if (worth > best) {
                     best = worth;
                     first = index;
@@ -1733,6 +1741,23 @@ public final class Lexirack {
             }
             picked = first;
             return best;
+        }
+
+        /** What the other player gets more behind a play of the list that leaves tiles on the rack. */
+        private int weighBehind(int player, int index, int low, int high, int level) {
+            Plays list = level >= 0 && level < lists.length ? lists[level] : null;
+            Lay lay = level >= 0 && level < lays.length ? lays[level] : null;
+            if (list == null || lay == null) {
+                return FAR;
+            }
+            int[] rack = game.rackOf(player);
+            lay.lay(list.cellAt(index), list.stepAt(index), codes, list.unpack(index, codes));
+            lay.settle();
+            lay.changeCounts(rack, -1);
+            int worth = weigh(1 - player, 0, low, high, level + 1);
+            lay.changeCounts(rack, 1);
+            lay.lift();
+            return worth;
         }
     }
 

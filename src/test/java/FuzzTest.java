@@ -83,7 +83,7 @@ public final class FuzzTest {
         Object first = answer(FACE, got, name, given);
         String text = name + java.util.Arrays.toString(given) + " answered " + first;
         log.add(text);
-        String class0 = name + " " + (first instanceof String ? first : "answers");
+        String class0 = name + " " + (first instanceof String || first instanceof Boolean ? first : "answers");
         tally.merge(second == null ? name + " too much" : class0, 1, Integer::sum);
         if (second != null && !first.equals(second)) {
             log.add("due is " + second);
@@ -129,10 +129,25 @@ public final class FuzzTest {
     }
 
     private void typeWord() {
-        call("wipe");
+        if (!oneIn(20)) {
+            call("wipe");
+        }
         int size = oneIn(10) ? between(1, 9) : oneIn(3) ? between(2, 7) : between(2, 3);
         for (int k = 0; k < size; k++) {
             call("type", oneIn(60) ? anySign() : anyLetter());
+        }
+    }
+
+    /** Words that can be made of what is on a rack and lies on the board. */
+    private void addLikelyWords(int most) {
+        String tiles = due.tilesOf(between(0, 1)) + due.lettersLaid();
+        for (int k = 0; k < most && !tiles.isEmpty(); k++) {
+            call("wipe");
+            for (int size = oneIn(3) ? between(2, 7) : between(2, 3); size > 0; size--) {
+                char kind = tiles.charAt(random.nextInt(tiles.length()));
+                call("type", kind == '?' ? anyLetter() : kind);
+            }
+            call("word", oneIn(5) ? between(0, 4) : 0, 9);
         }
     }
 
@@ -150,7 +165,7 @@ public final class FuzzTest {
             boolean isUsed = letter < 'a' + letters;
             int most = isFew ? 2 : oneIn(10) ? 12 : 4;
             if (!oneIn(30)) {
-                call("letter", letter, between(0, 10), isUsed ? between(0, most) : 0);
+                call("letter", letter, between(0, 10), isUsed ? between(isFew ? 0 : 2, most) : 0);
             }
         }
         call("letter", '?', between(-5, 20), oneIn(3) ? between(0, 3) : oneIn(2) ? 1 : 0);
@@ -177,7 +192,7 @@ public final class FuzzTest {
 
     private void go() {
         letters = oneIn(3) ? between(2, 8) : between(1, 4);
-        addWords(oneIn(12) ? 60 : between(0, 14));
+        addWords(oneIn(12) ? 60 : oneIn(8) ? between(0, 3) : between(6, 20));
         if (oneIn(3)) {
             call("edition", between(0, 9));
         }
@@ -187,16 +202,28 @@ public final class FuzzTest {
         setTiles();
         setBoard();
         begin();
+        addLikelyWords(oneIn(6) ? 0 : between(3, 12));
         while (calls < MOST_CALLS && !isWrong) {
             step();
         }
     }
 
     private void step() {
+        if (call("isOver") == 1 && !oneIn(4)) {
+            lookAtGame();
+            if (oneIn(3)) {
+                call("start", between(0, 4), between(0, 4));
+            }
+            call("challenge");
+            lookAtRatings();
+            call("score", 0);
+            call("score", 1);
+            begin();
+        }
         int what = random.nextInt(100);
-        if (what < 30) {
+        if (what < 40) {
             makeTurn();
-        } else if (what < 40) {
+        } else if (what < 45) {
             lookAtList();
         } else if (what < 55) {
             lookAtGame();
@@ -242,7 +269,11 @@ public final class FuzzTest {
             typePlay(random.nextInt(many));
         } else if (how < 14) {
             typeFromRack(between(1, 4));
-            call("play", between(0, 4), between(0, 4), oneIn(2));
+            for (int tries = 0; tries < 4; tries++) {
+                if (call("play", between(0, 4), between(0, 4), oneIn(2)) >= 0) {
+                    break;
+                }
+            }
         } else if (how < 16) {
             typeFromRack(between(0, 3));
             call("exchange");
@@ -275,11 +306,13 @@ public final class FuzzTest {
     private void typeFromRack(int size) {
         call("wipe");
         int mover = call("mover");
-        for (int tries = 0, typed = 0; tries < 12 && typed < size && mover >= 0; tries++) {
-            char kind = oneIn(4) ? '?' : anyLetter();
-            if (call("rack", mover, kind) > 0) {
-                call("type", kind == '?' && !oneIn(8) ? Character.toUpperCase(anyLetter()) : kind);
-                typed++;
+        String tiles = mover >= 0 ? due.tilesOf(mover) : "";
+        for (int typed = 0; typed < size && !tiles.isEmpty(); typed++) {
+            int place = random.nextInt(tiles.length());
+            char kind = tiles.charAt(place);
+            call("type", kind == '?' && !oneIn(8) ? Character.toUpperCase(anyLetter()) : kind);
+            if (!oneIn(20)) {
+                tiles = tiles.substring(0, place) + tiles.substring(place + 1);
             }
         }
     }
@@ -287,7 +320,7 @@ public final class FuzzTest {
     private void lookAtList() {
         int many = Math.max(0, call("plays"));
         call("bestByLeave");
-        for (int k = 0; k < 4; k++) {
+        for (int k = oneIn(3) ? 4 : 1; k > 0; k--) {
             int index = oneIn(20) ? between(-1, many + 1) : many == 0 ? 0 : random.nextInt(many);
             for (char what : "xydsnw".toCharArray()) {
                 call("playAt", index, what);
@@ -332,6 +365,8 @@ public final class FuzzTest {
 
     private void changeBook() {
         if (oneIn(2)) {
+            addLikelyWords(between(1, 3));
+        } else if (oneIn(3)) {
             addWords(1);
         } else if (oneIn(3)) {
             call("edition", oneIn(20) ? 10 : between(0, 9));

@@ -128,6 +128,19 @@ final class Naive {
         }
     }
 
+    /** What a test looks at to choose its calls. */
+    String tilesOf(int player) {
+        return isBegun ? racks[player].toString() : "";
+    }
+
+    String lettersLaid() {
+        StringBuilder laid = new StringBuilder();
+        for (int y = 0; isBegun && y < tiles.length; y++) {
+            laid.append(new String(tiles[y]).toLowerCase().replace(".", ""));
+        }
+        return laid.toString();
+    }
+
     int type(char sign) {
         argument("abcdefghABCDEFGH?".indexOf(sign) >= 0);
         state(row.length() < 9);
