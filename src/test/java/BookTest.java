@@ -123,6 +123,13 @@ public final class BookTest {
             Check.due("the row stays", row.length(), x.wipe());
         }
         Check.typed(x, "ce").word(4, 4);
+        Check.typed(x, "ba").strike();
+        Check.due("another word keeps its editions", false, Check.typed(x, "ce").isWord());
+        x.edition(4);
+        Check.due("in its edition", true, x.isWord());
+        x.edition(5);
+        Check.due("not behind it", false, x.isWord());
+        Check.withWords(x, "ba");
         Check.due("a word of another edition", 2, Check.typed(x, "ce").strike());
         Check.due("two left", 2, x.words());
     }
@@ -220,6 +227,8 @@ public final class BookTest {
         Check.due("blanks alone", 3, Check.typed(x, "??").anagrams(true));
         Check.due("blanks alone, any", 6, Check.typed(x, "A?B").anagrams(false));
         Check.due("a letter as often as it is there", 0, Check.typed(x, "c").anagrams(false));
+        Check.due("a blank for a", 2, Check.typed(x, "b?").anagrams(true));
+        Check.due("no a, no blank", 0, Check.typed(x, "bbc").anagrams(false));
         Check.due("seven letters", 1, Check.typed(x, "dccbbaa").anagrams(true));
         Check.due("eight tiles, all", 0, Check.typed(x, "dccbbaa?").anagrams(true));
         Check.due("eight tiles, any", 7, x.anagrams(false));

@@ -8,6 +8,7 @@ public final class EndTest {
         promise36Blocks();
         promise36IdleTurns();
         promise36LawfulPlaysAlone();
+        promise36Premiums();
         promise36ClocksAside();
         promise37Solved();
         promise37First();
@@ -120,6 +121,21 @@ public final class EndTest {
             Check.typed(x, "ba").strike();
             Check.due("no word again", 5, x.value());
         }
+    }
+
+    /** A premium counts for the tiles of a play, not again for a later one along them. */
+    private static void promise36Premiums() {
+        Lexirack x = Check.dealt(EndTest::tripled, 3, 'v', "abd", "c");
+        Check.due("ab thrice, then abc once", 9 - 5, x.value());
+        Check.due("the first play", "1 2 right ab 9", Check.told(x, x.solved()));
+        Check.played(x, "ab", 1, 2, false);
+        Check.due("abc", 5, x.value());
+    }
+
+    private static Lexirack tripled() {
+        Lexirack x = Check.values(Check.tiles(Check.book("ab", "abc"), "abcd"), "abcd", 1, 2, 2, 0);
+        x.cell(1, 2, 'T');
+        return x;
     }
 
     private static void promise36ClocksAside() {

@@ -19,6 +19,7 @@ public final class FuzzTest {
     private final List<String> log = new ArrayList<>();
     private int calls = 0;
     private int letters;
+    private boolean isEnd;
     private boolean isWrong = false;
 
     private FuzzTest(long seed) {
@@ -159,7 +160,23 @@ public final class FuzzTest {
         }
     }
 
+    /** Few tiles, so that the bag is empty soon. */
+    private void setFewTiles() {
+        int[] counts = new int[letters + 1];
+        for (int tiles = between(3, 8); tiles > 0; tiles--) {
+            counts[random.nextInt(counts.length)]++;
+        }
+        for (char letter = 'a'; letter <= 'h'; letter++) {
+            call("letter", letter, between(0, 10), letter < 'a' + letters ? counts[letter - 'a'] : 0);
+        }
+        call("letter", '?', 0, counts[letters]);
+    }
+
     private void setTiles() {
+        if (isEnd) {
+            setFewTiles();
+            return;
+        }
         boolean isFew = oneIn(2);
         for (char letter = 'a'; letter <= 'h'; letter++) {
             boolean isUsed = letter < 'a' + letters;
@@ -192,6 +209,11 @@ public final class FuzzTest {
 
     private void go() {
         letters = oneIn(3) ? between(2, 8) : between(1, 4);
+        if (oneIn(20)) {
+            goThroughBooks();
+            return;
+        }
+        isEnd = oneIn(4);
         addWords(oneIn(12) ? 60 : oneIn(8) ? between(0, 3) : between(6, 20));
         if (oneIn(3)) {
             call("edition", between(0, 9));
@@ -208,6 +230,26 @@ public final class FuzzTest {
         }
     }
 
+    private void goThroughBooks() {
+        while (calls < MOST_CALLS && !isWrong) {
+            call("wipe");
+            for (int size = between(2, 7); size > 0; size--) {
+                call("type", anyLetter());
+            }
+            if (oneIn(12)) {
+                call("strike");
+            }
+            boolean isOften = !oneIn(3);
+            call("word", isOften ? 0 : between(0, 5), isOften ? 9 : between(4, 9));
+            if (oneIn(6)) {
+                call("edition", between(0, 9));
+                call("nodes");
+            }
+            call("isWord");
+        }
+        call("nodes");
+    }
+
     private void step() {
         if (call("isOver") == 1 && !oneIn(4)) {
             lookAtGame();
@@ -221,6 +263,9 @@ public final class FuzzTest {
             begin();
         }
         int what = random.nextInt(100);
+        if (isEnd && oneIn(5)) {
+            lookAtEnd();
+        }
         if (what < 40) {
             makeTurn();
         } else if (what < 45) {

@@ -96,6 +96,13 @@ public final class GameTest {
         Check.thrown("no play to challenge", Check.UNSUPPORTED, x::challenge);
         Check.played(x, "aa", 2, 2, false);
         Check.due("a new sheet", 52, x.sheet(0, 0));
+        x.begin(2, 'f', 0);
+        Check.played(x, "aa", 2, 2, false);
+        x.challenge();
+        Check.due("5 more", 57, x.score(0));
+        x.begin(2, 'f', 0);
+        Check.due("not in another game", 0, x.score(0));
+        Check.due("all points", true, x.isSound());
     }
 
     private static void promise19Tile() {
@@ -113,6 +120,11 @@ public final class GameTest {
         Check.thrown("no such cell, in a game", Check.INDEX, () -> y.tile(2, 5));
         y.challenge();
         Check.due("the game is as it was", 'B', y.tile(2, 2));
+        Lexirack h = Check.tiles(Check.book("hh"), "h?");
+        h.begin(2, 'v', 0);
+        Check.played(h, "hH", 2, 2, false);
+        Check.due("the last letter", 'h', h.tile(2, 2));
+        Check.due("the last letter as a blank", 'H', h.tile(3, 2));
         Lexirack z = Check.tiles(Check.book("ab"), "ab");
         z.begin(2, 'v', 0);
         Check.played(z, "ab", 1, 2, false);

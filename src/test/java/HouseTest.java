@@ -13,6 +13,9 @@ public final class HouseTest {
         promise29TurnWithoutPlay();
         promise29EditionAsItIsThen();
         promise29AcrossCounts();
+        promise29EachWordCounts();
+        promise29WholeWords();
+        promise29LongRows();
         promise29StartBehindTheEnd();
         Check.end("HouseTest");
     }
@@ -199,6 +202,52 @@ public final class HouseTest {
         Check.due("what lay there stays", 'a', x.tile(2, 2));
         Check.due("what was laid is gone", '.', x.tile(2, 3));
         Check.due("the first one scored", 52, x.score(0));
+    }
+
+    private static boolean isTakenBack(String words, String tiles, int column, int row, boolean isDown) {
+        Lexirack x = Check.dealt(() -> Check.tiles(Check.book(words.split(" ")), "abcdaabb"), 4, 's', "aabb", "abcd");
+        Check.played(x, "ab", 2, 2, isDown);
+        Check.played(x, tiles, column, row, isDown);
+        return x.challenge();
+    }
+
+    /** cd lies beside ab, and each of its words may be the only one that is none. */
+    private static void promise29EachWordCounts() {
+        for (boolean isDown : new boolean[] {false, true}) {
+            int column = isDown ? 3 : 2;
+            int row = isDown ? 2 : 3;
+            Check.due("all are words", false, isTakenBack("cd ac bd", "cd", column, row, isDown));
+            Check.due("not along", true, isTakenBack("dc ac bd", "cd", column, row, isDown));
+            Check.due("not across the first tile", true, isTakenBack("cd bd", "cd", column, row, isDown));
+            Check.due("not across the second tile", true, isTakenBack("cd ac", "cd", column, row, isDown));
+        }
+    }
+
+    /** What is a word from the second letter on, or up to the last but one, is none. */
+    private static void promise29WholeWords() {
+        for (String word : new String[] {"bb", "ab", "abba", "babb", "b"}) {
+            Lexirack x = Check.dealt(() -> Check.tiles(new Lexirack(), "aabbab"), 4, 's', "aabb", "ab");
+            Check.played(x, "abb", 1, 2, false);
+            Check.withWords(x, word.length() < 2 ? "ba" : word);
+            Check.due("abb is no word, " + word + " is", true, x.challenge());
+        }
+        Lexirack y = Check.dealt(() -> Check.tiles(new Lexirack(), "aabbab"), 4, 's', "aabb", "ab");
+        Check.played(y, "abb", 1, 2, false);
+        Check.withWords(y, "abb");
+        Check.due("abb is one", false, y.challenge());
+    }
+
+    /** No word has more than seven letters, whatever it begins or ends with. */
+    private static void promise29LongRows() {
+        Lexirack x = Check.tiles(Check.book("aaaaaaa", "aaaaaa"), "aaaaaaaaaaaa");
+        x.board(9, 9);
+        x.begin(7, 's', 0);
+        Check.played(x, "aaaaaa", 1, 4, false);
+        Check.played(x, "aaa", 0, 4, false);
+        Check.due("nine letters", true, x.challenge());
+        x.pass();
+        Check.due("seven letters", 7, Check.played(x, "a", 0, 4, false));
+        Check.due("a word", false, x.challenge());
     }
 
     /** The game keeps values, counts and cells; of the start nothing is said, so it is the one told last. */

@@ -10,6 +10,10 @@ public final class ListTest {
         promise23Across();
         promise23Walls();
         promise23FollowsTheBook();
+        promise23FollowsTheGame();
+        promise23PlayTakenBack();
+        promise23FirstLook();
+        promise23Many();
         promise24PlayAt();
         promise24Order();
         promise24OrderOfTiles();
@@ -18,6 +22,7 @@ public final class ListTest {
         promise24Scores();
         promise24PremiumsOnce();
         promise24FullRack();
+        promise24GreatestScore();
         promise25PlayTile();
         promise26BestByLeave();
         Check.end("ListTest");
@@ -118,6 +123,66 @@ public final class ListTest {
         x.pass();
         Check.typed(x, "aa").strike();
         Check.due("nothing is lawful any more", 0, x.plays());
+    }
+
+    /** Each call that changes what is lawful is followed by a look at the list. */
+    private static void promise23FollowsTheGame() {
+        Lexirack x = Check.dealt(() -> Check.tiles(Check.book("aa", "bb", "ab"), "aabbcccc"), 2, 's', "aa", "bb");
+        Check.due("of the first rack", "2 1 below aa 52", Check.told(x, 0));
+        x.pass();
+        Check.due("of the second rack", "2 1 below bb 52", Check.told(x, 0));
+        Check.typed(x, "bb").exchange();
+        Check.due("of the first rack again", "2 1 below aa 52", Check.told(x, 0));
+        Check.played(x, "aa", 2, 2, false);
+        Check.due("the second rack has cc", 0, x.plays());
+        Check.due("lawful", false, x.challenge());
+        Check.due("the list stays", 0, x.plays());
+        x.pass();
+        int before = x.plays();
+        Check.played(x, Check.rack(x, 0).substring(0, 1), 1, 2, false);
+        x.plays();
+        Check.due("a phony", true, x.challenge());
+        x.pass();
+        Check.due("the list as before it", before, x.plays());
+        x.begin(2, 'v', 3);
+        String rack = Check.rack(x, 0);
+        boolean hasWord = rack.contains("a") && rack.matches("[ab]+") || rack.equals("bb");
+        Check.due("of another game", hasWord, x.plays() > 0);
+    }
+
+    private static void promise23PlayTakenBack() {
+        Lexirack x = Check.dealt(() -> Check.tiles(Check.book("ab"), "aabbb"), 2, 's', "ab", "ab");
+        Check.played(x, "ba", 2, 2, false);
+        Check.due("beside a phony", false, Check.list(x).contains("1 2 right ab 52"));
+        x.challenge();
+        Check.due("on an empty board again", true, Check.list(x).contains("1 2 right ab 52"));
+    }
+
+    /** The first look at the list may be each call that needs it. */
+    private static void promise23FirstLook() {
+        Check.due("playAt", 52, ready().playAt(0, 's'));
+        Check.due("playTile", 'a', ready().playTile(0, 0));
+        Check.due("bestByLeave", 0, ready().bestByLeave());
+        Check.due("playListed", 52, ready().playListed(0));
+        Check.due("solved", true, ready().isSound());
+    }
+
+    private static Lexirack ready() {
+        Lexirack x = Check.tiles(Check.book("aa"), "aaaaa");
+        x.begin(2, 'v', 0);
+        return x;
+    }
+
+    private static void promise23Many() {
+        Lexirack x = Check.tiles(new Lexirack(), "????????????");
+        for (int k = 0; k < 64; k++) {
+            Check.typed(x, "" + (char) ('a' + k / 8) + (char) ('a' + k % 8)).word(0, 9);
+        }
+        x.begin(2, 'v', 0);
+        Check.due("64 words in four places", 256, x.plays());
+        Check.due("the first one", "2 1 below AA 50", Check.told(x, 0));
+        Check.due("the last one", "2 2 below HH 50", Check.told(x, 255));
+        Check.due("the last one of the first place", "2 1 below HH 50", Check.told(x, 63));
     }
 
     private static void promise24PlayAt() {
@@ -227,6 +292,13 @@ public final class ListTest {
         holds(list, "3 3 right b 4", true);
         hasNone(list, "3 3 below");
         Check.due("nothing twice", list.size(), new HashSet<>(list).size());
+        Lexirack y = Check.dealt(() -> Check.tiles(Check.book("aa", "ba", "bb", "ab"), "aabbb"), 2, 's', "aa", "bb");
+        Check.played(y, "aa", 1, 2, false);
+        Check.played(y, "b", 2, 3, false);
+        List<String> other = Check.list(y);
+        holds(other, "1 3 right b 4", true);
+        hasNone(other, "1 3 below b");
+        Check.due("nothing twice", other.size(), new HashSet<>(other).size());
     }
 
     private static void promise24Scores() {
@@ -258,6 +330,18 @@ public final class ListTest {
         x.cell(2, 2, 'T');
         x.cell(3, 2, 'd');
         return x;
+    }
+
+    /** 70 for seven letters, thrice for each of seven cells, and a full rack. */
+    private static void promise24GreatestScore() {
+        Lexirack x = Check.values(Check.tiles(Check.book("aaaaaaa"), "aaaaaaaaaaaa"), "a", 10);
+        x.board(9, 9);
+        for (int cell = 0; cell < 81; cell++) {
+            x.cell(cell % 9, cell / 9, 'T');
+        }
+        x.begin(7, 'v', 0);
+        Check.due("3 to the power of 7, 70 times, and 50", 2187 * 70 + 50, x.playAt(0, 's'));
+        Check.due("as played", 2187 * 70 + 50, x.playListed(0));
     }
 
     private static void promise24FullRack() {

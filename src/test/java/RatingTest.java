@@ -123,6 +123,12 @@ public final class RatingTest {
         Lexirack z = Check.dealt(() -> Check.tiles(Check.book("ab"), "abb"), 2, 'f', "ab", "b");
         Check.played(z, "ab", 2, 2, false);
         Check.due("with what comes of the end", 10, z.rate());
+        Lexirack y = Check.dealt(() -> Check.tiles(Check.book("ab"), "aabb"), 2, 'v', "ab", "ab");
+        y.pass();
+        y.playListed(0);
+        Check.due("the player 1 has more", 56, y.score(1));
+        Check.due("so the player 0 loses", -10, y.rate());
+        Check.due("and the other one wins", 1010, y.rating(1));
     }
 
     private static void promise45BothByRatingsAsTheyWere() {

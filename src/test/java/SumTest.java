@@ -107,6 +107,15 @@ public final class SumTest {
         Check.due("two plays of 2 and 3, by both players or one", 2.5, y.meanPoints());
         y.begin(3, 'v', 0);
         Check.thrown("another game", Check.ARITHMETIC, y::meanPoints);
+        Lexirack z = Check.tiles(Check.book("aa"), "aaaaaaa");
+        z.begin(2, 'v', 0);
+        z.playListed(0);
+        Check.due("the first turn", 52.0, z.meanPoints());
+        z.pass();
+        z.playListed(0);
+        z.begin(3, 'v', 0);
+        z.playListed(0);
+        Check.due("plays of this game", 2.0, z.meanPoints());
     }
 
     private static void promise50IsSound() {

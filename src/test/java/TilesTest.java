@@ -77,7 +77,9 @@ public final class TilesTest {
         Check.due("a vowel more", 4 - 3, Check.typed(x, "a").leave());
         Check.due("another letter more", -3 - 3, Check.typed(x, "b").leave());
         Check.due("as many", 1, Check.typed(x, "ab").leave());
-        Check.due("e is a vowel", 1 - 0, Check.typed(x, "ab").leave());
+        Check.due("a and e are vowels", 4 - 6, Check.typed(x, "ae").leave());
+        Check.due("no others are", -3 * 5, Check.typed(x, "cdfgh").leave());
+        Check.due("three more others", 4 - 3 * 3, Check.typed(x, "cdfghae").leave());
         Check.due("e and others", 0, Check.typed(x, "ec").leave());
         Check.due("two of a letter", 8 - 5 - 6, Check.typed(x, "aa").leave());
         Check.due("three of a letter", 12 - 10 - 9, Check.typed(x, "aaa").leave());

@@ -4,6 +4,7 @@ public final class TurnTest {
         promise27Play();
         promise27WhatCannotBeLaid();
         promise27OverTiles();
+        promise27Apart();
         promise27Unlawful();
         promise27Draws();
         promise28PlayListed();
@@ -80,10 +81,19 @@ public final class TurnTest {
         Check.played(y, "aa", 2, 2, false);
         Check.thrown("its first cell is not free", Check.UNSUPPORTED, () -> Check.played(y, "bb", 2, 2, false));
         Check.thrown("nor another one that has a tile", Check.UNSUPPORTED, () -> Check.played(y, "bb", 3, 2, false));
-        Check.thrown("apart from the tiles", Check.UNSUPPORTED, () -> Check.played(y, "bb", 0, 0, false));
         Check.due("beyond tiles that lie there", 54, Check.played(y, "bb", 1, 2, false));
         Check.due("the last tile", 'b', y.tile(4, 2));
         Check.due("the bag is empty, and so is the rack", true, y.isOver());
+    }
+
+    private static void promise27Apart() {
+        Lexirack x = Check.dealt(() -> Check.tiles(Check.book("aa"), "aabbcc"), 2, 's', "aa", "bb");
+        Check.played(x, "aa", 2, 2, false);
+        Check.thrown("apart from the tiles", Check.UNSUPPORTED, () -> Check.played(x, "bb", 0, 0, false));
+        Check.thrown("aslant from them", Check.UNSUPPORTED, () -> Check.played(x, "bb", 0, 1, false));
+        Check.thrown("aslant, below", Check.UNSUPPORTED, () -> Check.played(x, "bb", 4, 3, true));
+        Check.thrown("a tile apart", Check.UNSUPPORTED, () -> Check.played(x, "b", 0, 2, false));
+        Check.due("its last tile beside them", 52 + 2, Check.played(x, "bb", 1, 1, false));
     }
 
     private static void promise27Unlawful() {
