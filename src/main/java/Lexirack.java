@@ -1691,8 +1691,8 @@ public final class Lexirack {
 
         /**
          * What a player who moves gets more than the other one, exact between the bounds.
-         * Behind two passes in a row each player has the plays again that it did not want before,
-         * so a pass is worth what the other one's plays leave of the end by passes, no more.
+         * Passes change nothing but their number, so that behind two of them the same choice comes again. A pass is
+         * worth the end by passes, or less if the other one has a better play, and no longer row of passes tells more.
          */
         private int weigh(int player, int idle, int low, int high, int level) {
             int best = findBest(player, low, high, level);
