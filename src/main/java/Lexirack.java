@@ -1227,16 +1227,22 @@ public final class Lexirack {
 
         /** Whether the row through a cell is a word; a tile alone breaks no rule. */
         boolean isRowLawful(int cell, int step, Graph graph) {
-            int at = firstOf(cell, step);
-            int node = 0;
-            int length = 0;
-            while (length < MOST_SIDE && tileAt(at) != 0) {
-                // The first node again would be the end of all words, not their beginning.
-                node = length > 0 && node == 0 ? 0 : graph.follow(node, letterOf(tileAt(at)));
-                length++;
-                at += step;
+            int first = firstOf(cell, step);
+            return tileAt(first + step) == 0 || graph.isWordAt(lead(0, first, step, graph));
+        }
+
+        /** Where the tiles from a cell on, as far as they lie side by side, lead from a node; 0 if no word goes on so. */
+        int lead(int node, int from, int step, Graph graph) {
+            int led = node;
+            int cell = from;
+            for (int length = 0; length < MOST_SIDE && tileAt(cell) != 0; length++) {
+                led = graph.follow(led, letterOf(tileAt(cell)));
+                if (led == 0) {
+                    return 0;
+                }
+                cell += step;
             }
-            return length < LEAST_LETTERS || graph.isWordAt(node);
+            return led;
         }
 
         /** What the row through a cell counts; 0 if it is a tile alone. */
@@ -1255,11 +1261,6 @@ public final class Lexirack {
                 at += step;
             }
             return length < LEAST_LETTERS ? 0 : sum * times;
-        }
-
-        boolean isBesideTile(int cell) {
-            return tileAt(cell - RIGHT) != 0 || tileAt(cell + RIGHT) != 0
-                || tileAt(cell - BELOW) != 0 || tileAt(cell + BELOW) != 0;
         }
 
         int countCells() {
@@ -1520,15 +1521,19 @@ public final class Lexirack {
 
     /** Finds all lawful plays of a rack: along each line, letter by letter as words go on. */
     private static final class Finder {
+        private static final int OUT_OF_REACH = 100;
+
         private final Field field;
         private final Lay lay;
         private final Book book;
         private final Graph graph;
         private final boolean[] isJoint = new boolean[CELLS];
+        private final int[] reach = new int[CELLS];
         private final int[] masks = new int[CELLS];
         private final int[] codes = new int[MOST_LAID];
         private Plays out;
         private int[] rack;
+        private int tiles;
 
         Finder(Field field, Lay lay, Book book) {
             this.field = field;
@@ -1544,7 +1549,7 @@ public final class Lexirack {
             this.rack = rack;
             book.freshGraph();
             out.clear();
-            int tiles = sum(rack);
+            tiles = Math.min(sum(rack), MOST_LAID);
             if (tiles == 0) {
                 return;
             }
@@ -1553,8 +1558,9 @@ public final class Lexirack {
                 lay.lift();
                 lay.step = step;
                 Arrays.fill(masks, -1);
-                for (int cell = WIDTH; cell < CELLS - WIDTH; cell++) {
-                    if (field.tileAt(cell - step) == 0 && canJoin(cell, tiles)) {
+                markReach();
+                for (int cell = 0; cell < CELLS; cell++) {
+                    if (at(reach, cell) <= tiles && field.tileAt(cell - step) == 0) {
                         walk(cell, 0, false, 0);
                     }
                 }
@@ -1563,7 +1569,25 @@ public final class Lexirack {
 
         private void markJoints(int start) {
             for (int cell = 0; cell < isJoint.length; cell++) {
-                isJoint[cell] = field.count == 0 ? cell == start : field.isBesideTile(cell);
+                isJoint[cell] = false;
+            }
+            if (field.count == 0) {
+                markJoint(start);
+                return;
+            }
+            for (int cell = 0; cell < CELLS; cell++) {
+                if (field.tileAt(cell) != 0) {
+                    markJoint(cell - RIGHT);
+                    markJoint(cell + RIGHT);
+                    markJoint(cell - BELOW);
+                    markJoint(cell + BELOW);
+                }
+            }
+        }
+
+        private void markJoint(int cell) {
+            if (cell >= 0 && cell < isJoint.length) {
+                isJoint[cell] = true;
             }
         }
 
@@ -1571,25 +1595,16 @@ public final class Lexirack {
             return cell >= 0 && cell < isJoint.length && isJoint[cell];
         }
 
-        /** Whether a word from this cell on can get to a cell where it joins what lies. */
-        private boolean canJoin(int cell, int tiles) {
-            int free = 0;
-            for (int length = 0; length < MOST_LETTERS; length++) {
-                int at = cell + length * lay.step;
-                if (field.isWall(at)) {
-                    return false;
+        /** How many tiles a play from each cell on lays until one of them joins what lies. */
+        private void markReach() {
+            for (int cell = CELLS - 1; cell >= 0; cell--) {
+                int needed = OUT_OF_REACH;
+                if (!field.isWall(cell)) {
+                    int behind = at(reach, cell + lay.step);
+                    needed = field.tileAt(cell) != 0 ? behind : isJointAt(cell) ? 1 : 1 + behind;
                 }
-                if (field.tileAt(at) == 0) {
-                    free++;
-                    if (free > tiles) {
-                        return false;
-                    }
-                    if (isJointAt(at)) {
-                        return true;
-                    }
-                }
+                put(reach, cell, needed);
             }
-            return false;
         }
 
         /** What lies before the cell leads to the node; goes on with the cell. */
@@ -1598,7 +1613,7 @@ public final class Lexirack {
             if (code == 0 && isJoined && graph.isWordAt(node) && !isListedAcross()) {
                 out.add(lay.points(), at(lay.cells, 0), lay.step, codes, lay.count);
             }
-            if (length >= MOST_LETTERS || field.isWall(cell)) {
+            if (length >= MOST_LETTERS || field.isWall(cell) || code == 0 && lay.count >= tiles) {
                 return;
             }
             if (code != 0) {
@@ -1609,10 +1624,15 @@ public final class Lexirack {
                 return;
             }
             boolean isJoinedNow = isJoined || isJointAt(cell);
+            int mask = maskAt(cell);
+            boolean hasBlank = at(rack, BLANK) > 0;
             for (int letter = 0; letter < LETTERS; letter++) {
-                int next = graph.follow(node, letter);
-                if (next != 0 && (maskAt(cell) >> letter & 1) == 1) {
+                boolean hasLetter = at(rack, letter) > 0;
+                int next = (mask >> letter & 1) == 1 && (hasLetter || hasBlank) ? graph.follow(node, letter) : 0;
+                if (next != 0 && hasLetter) {
                     tryTile(cell, letter + 1, next, isJoinedNow, length);
+                }
+                if (next != 0 && hasBlank) {
                     tryTile(cell, letter + 1 + LETTERS, next, isJoinedNow, length);
                 }
             }
@@ -1620,14 +1640,12 @@ public final class Lexirack {
 
         private void tryTile(int cell, int code, int node, boolean isJoined, int length) {
             int kind = kindOf(code);
-            if (at(rack, kind) > 0 && lay.count < MOST_LAID) {
-                change(rack, kind, -1);
-                put(codes, lay.count, code);
-                lay.push(cell, code);
-                walk(cell + lay.step, node, isJoined, length + 1);
-                lay.pop();
-                change(rack, kind, 1);
-            }
+            change(rack, kind, -1);
+            put(codes, lay.count, code);
+            lay.push(cell, code);
+            walk(cell + lay.step, node, isJoined, length + 1);
+            lay.pop();
+            change(rack, kind, 1);
         }
 
         /** A play of one tile with a word to the right is listed as one to the right. */
@@ -1643,14 +1661,19 @@ public final class Lexirack {
             if (mask >= 0) {
                 return mask;
             }
+            int across = lay.across();
+            boolean isFirst = field.tileAt(cell - across) == 0;
+            if (isFirst && field.tileAt(cell + across) == 0) {
+                return (1 << LETTERS) - 1;
+            }
+            int node = isFirst ? 0 : field.lead(0, field.firstOf(cell, across), across, graph);
             mask = 0;
-            for (int letter = 0; letter < LETTERS; letter++) {
-                field.setTile(cell, letter + 1, true);
-                if (field.isRowLawful(cell, lay.across(), graph)) {
+            for (int letter = 0; letter < LETTERS && (isFirst || node != 0); letter++) {
+                int next = graph.follow(node, letter);
+                if (next != 0 && graph.isWordAt(field.lead(next, cell + across, across, graph))) {
                     mask |= 1 << letter;
                 }
             }
-            field.setTile(cell, 0, false);
             put(masks, cell, mask);
             return mask;
         }
