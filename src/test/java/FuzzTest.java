@@ -1,5 +1,3 @@
-import java.lang.reflect.InvocationTargetException;
-import java.lang.reflect.Method;
 import java.util.ArrayList;
 import java.util.HashMap;
 import java.util.List;
@@ -8,14 +6,13 @@ import java.util.Random;
 
 /** Random runs of calls, each held against Naive, which does what the document says by trying everything. */
 public final class FuzzTest {
-    private static final int MOST_CALLS = 512;
-    private static final Map<String, Method> FACE = methodsOf(Lexirack.class);
-    private static final Map<String, Method> PLAIN = methodsOf(Naive.class);
+    private static final int MOST_CALLS = Subject.MOST_CALLS;
     private static final Map<String, Integer> tally = new HashMap<>();
 
     private final Random random;
-    private final Lexirack got = new Lexirack();
     private final Naive due = new Naive();
+    private final Subject plain = new Subject(due);
+    private final Subject got = new Subject(new Lexirack());
     private final List<String> log = new ArrayList<>();
     private int calls = 0;
     private int letters;
@@ -48,40 +45,14 @@ public final class FuzzTest {
         }
     }
 
-    private static Map<String, Method> methodsOf(Class<?> kind) {
-        Map<String, Method> methods = new HashMap<>();
-        for (Method method : kind.getDeclaredMethods()) {
-            if (!java.lang.reflect.Modifier.isPrivate(method.getModifiers())) {
-                methods.put(method.getName(), method);
-            }
-        }
-        return methods;
-    }
-
-    private static Object answer(Map<String, Method> face, Object whom, String name, Object[] given) {
-        try {
-            return face.get(name).invoke(whom, given);
-        } catch (InvocationTargetException thrown) {
-            Throwable cause = thrown.getCause();
-            if (cause instanceof Naive.TooMuch) {
-                return null;
-            }
-            StackTraceElement[] trace = cause.getStackTrace();
-            boolean isThrown = trace.length > 0 && !trace[0].getClassName().startsWith("java.");
-            return isThrown ? cause.getClass().getName() : "of itself " + cause;
-        } catch (IllegalAccessException thrown) {
-            throw new IllegalStateException(thrown);
-        }
-    }
-
     /** The answer as a number, or Integer.MIN_VALUE behind an exception. */
     private int call(String name, Object... given) {
         if (isWrong || calls >= MOST_CALLS) {
             return Integer.MIN_VALUE;
         }
         calls++;
-        Object second = answer(PLAIN, due, name, given);
-        Object first = answer(FACE, got, name, given);
+        Object second = plain.call(name, given);
+        Object first = got.call(name, given);
         String text = name + java.util.Arrays.toString(given) + " answered " + first;
         log.add(text);
         String class0 = name + " " + (first instanceof String || first instanceof Boolean ? first : "answers");
@@ -93,16 +64,7 @@ public final class FuzzTest {
         if (name.equals("isSound") && !Boolean.TRUE.equals(first)) {
             isWrong = true;
         }
-        if (first instanceof Integer) {
-            return (Integer) first;
-        }
-        if (first instanceof Character) {
-            return (Character) first;
-        }
-        if (first instanceof Boolean) {
-            return (Boolean) first ? 1 : 0;
-        }
-        return Integer.MIN_VALUE;
+        return Subject.numberOf(first);
     }
 
     private boolean oneIn(int many) {

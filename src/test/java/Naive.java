@@ -75,6 +75,7 @@ final class Naive {
     private String drawn;
     private int steps;
     private Map<String, Integer> known;
+    private List<Play> listOfMover;
 
     Naive() {
         for (char kind : KINDS.toCharArray()) {
@@ -158,6 +159,7 @@ final class Naive {
         argument(row.matches("[a-h]{2,7}") && first >= 0 && first <= 9 && last >= 0 && last <= 9 && first <= last);
         state(book.containsKey(row) || book.size() < 80);
         book.put(row, new int[] {first, last});
+        listOfMover = null;
         row = "";
         return book.size();
     }
@@ -165,6 +167,7 @@ final class Naive {
     int strike() {
         element(book.containsKey(row));
         book.remove(row);
+        listOfMover = null;
         row = "";
         return book.size();
     }
@@ -173,6 +176,7 @@ final class Naive {
         argument(next >= 0 && next <= 9);
         int before = edition;
         edition = next;
+        listOfMover = null;
         return before;
     }
 
@@ -226,7 +230,13 @@ final class Naive {
     }
 
     private static String asKinds(String signs) {
-        return signs.replaceAll("[A-H]", "?");
+        StringBuilder kinds = new StringBuilder(signs);
+        for (int k = 0; k < kinds.length(); k++) {
+            if (Character.isUpperCase(kinds.charAt(k))) {
+                kinds.setCharAt(k, '?');
+            }
+        }
+        return kinds.toString();
     }
 
     int anagrams(boolean isAll) {
@@ -319,6 +329,7 @@ final class Naive {
         int before = 100 * startColumn + startRow;
         startColumn = column;
         startRow = line;
+        listOfMover = null;
         return before;
     }
 
@@ -349,6 +360,7 @@ final class Naive {
         last = null;
         mover = 0;
         isBegun = true;
+        listOfMover = null;
         drawUp(0);
         drawUp(1);
         return bag.length();
@@ -568,6 +580,14 @@ final class Naive {
         tryAll(other, at + 1, column, line, isDown, rack, into);
     }
 
+    /** The list of who moves, found anew behind each call that may change it. */
+    private List<Play> listNow() {
+        if (listOfMover == null) {
+            listOfMover = list(mover);
+        }
+        return listOfMover;
+    }
+
     /** Tries each word of the book at each place, and single letters at each cell. */
     private List<Play> list(int player) {
         String rack = racks[player].toString();
@@ -637,12 +657,12 @@ final class Naive {
 
     int plays() {
         state(goesOn());
-        return list(mover).size();
+        return listNow().size();
     }
 
     int playAt(int at, char what) {
         state(goesOn());
-        List<Play> list = list(mover);
+        List<Play> list = listNow();
         element(at >= 0 && at < list.size());
         argument("xydsnw".indexOf(what) >= 0);
         Play play = list.get(at);
@@ -652,7 +672,7 @@ final class Naive {
 
     char playTile(int at, int place) {
         state(goesOn());
-        List<Play> list = list(mover);
+        List<Play> list = listNow();
         element(at >= 0 && at < list.size());
         element(place >= 0 && place < list.get(at).tiles.length());
         return list.get(at).tiles.charAt(place);
@@ -660,7 +680,7 @@ final class Naive {
 
     int bestByLeave() {
         state(goesOn());
-        List<Play> list = list(mover);
+        List<Play> list = listNow();
         element(!list.isEmpty());
         int best = -1;
         int most = Integer.MIN_VALUE;
@@ -694,6 +714,7 @@ final class Naive {
         turn.points = score;
         turns.add(turn);
         mover = 1 - mover;
+        listOfMover = null;
     }
 
     int play(int column, int line, boolean isDown) {
@@ -707,7 +728,7 @@ final class Naive {
 
     int playListed(int at) {
         state(goesOn());
-        List<Play> list = list(mover);
+        List<Play> list = listNow();
         element(at >= 0 && at < list.size());
         return make(list.get(at));
     }
@@ -734,6 +755,7 @@ final class Naive {
         supported(!turns.isEmpty() && turns.get(turns.size() - 1).kind == 0 && !isChallenged && house != 'v');
         Turn turn = turns.get(turns.size() - 1);
         isChallenged = true;
+        listOfMover = null;
         if (!areLawful(wordsOf(last.cells, last.isDown))) {
             set(last.cells, null);
             takeFrom(racks[turn.player], drawn);
@@ -886,7 +908,7 @@ final class Naive {
         state(goesOn());
         supported(isEnd());
         int value = value();
-        List<Play> list = list(mover);
+        List<Play> list = listNow();
         for (int k = 0; k < list.size(); k++) {
             if (worthOf(list.get(k), mover) == value) {
                 return k;
