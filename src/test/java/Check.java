@@ -1,3 +1,6 @@
+import java.util.function.BiFunction;
+import java.util.function.Supplier;
+
 /** What the tests share: answers held against what is due, and short ways to type and to begin. */
 final class Check {
     static final Class<IllegalArgumentException> ARGUMENT = IllegalArgumentException.class;
@@ -34,6 +37,24 @@ final class Check {
             got = thrown.getClass();
         }
         due(what, want, got);
+    }
+
+    /** Of all signs that there are, just the told ones are taken; a new object is made before too many calls. */
+    static void signs(String what, String taken, Supplier<Lexirack> maker, BiFunction<Lexirack, Character, Object> call) {
+        Lexirack[] x = {maker.get()};
+        for (int sign = 0; sign <= Character.MAX_VALUE; sign++) {
+            char each = (char) sign;
+            if (sign % 100 == 0 || taken.indexOf(each) >= 0) {
+                x[0] = maker.get();
+            }
+            boolean isRefused = false;
+            try {
+                call.apply(x[0], each);
+            } catch (IllegalArgumentException thrown) {
+                isRefused = true;
+            }
+            due(what + " of the sign " + sign + " is refused", taken.indexOf(each) < 0, isRefused);
+        }
     }
 
     static void end(String name) {
@@ -92,7 +113,7 @@ final class Check {
     }
 
     /** Begins games, by one seed after the other, until the players have these racks; nothing is promised past 512 calls. */
-    static Lexirack dealt(java.util.function.Supplier<Lexirack> maker, int full, char house, String first, String second) {
+    static Lexirack dealt(Supplier<Lexirack> maker, int full, char house, String first, String second) {
         for (int seed = 0; seed < 200000; seed++) {
             Lexirack x = maker.get();
             x.begin(full, house, seed);
