@@ -13,6 +13,7 @@ public final class EndEdgesTest {
         sixTurnsOfAnEnd();
         fiftyInAnEnd();
         passOrPlay();
+        fourTilesOneByOne();
         holdsNoneOrAll();
         signsHeld();
         withoutAGame();
@@ -144,6 +145,38 @@ public final class EndEdgesTest {
     /** ab would let the other one go out with abc for 12, twice a; six passes are worth 10 less 3. */
     private static Lexirack lessThanAPass() {
         return Check.dealt(() -> Check.values(kit("aabc", "ab", "abc"), "abc", 1, 1, 10), 3, 'v', "aab", "c");
+    }
+
+    /** Seven cells between walls; the player 0 has all six tiles, and lays two of them in the middle. */
+    private static Lexirack oneRow() {
+        Lexirack x = kit("aaaaaa", "aa", "aaa", "aaaa", "aaaaa", "aaaaaa");
+        x.board(7, 3);
+        for (int column = 0; column < 7; column++) {
+            x.cell(column, 0, '#');
+            x.cell(column, 2, '#');
+        }
+        x.begin(7, 'v', 0);
+        Check.played(x, "aa", 3, 1, false);
+        return x;
+    }
+
+    /** Four tiles on one rack and none on the other one, laid in four turns: 3, 4, 5 and 6 points. */
+    private static void fourTilesOneByOne() {
+        Check.due("of who has no tile", -18, oneRow().value());
+        Check.due("who can but pass", -1, oneRow().solved());
+        Lexirack x = passed(oneRow(), 1);
+        Check.due("of who has four", 18, x.value());
+        Check.due("behind two plays of four tiles, three of three, three of two", 8, x.solved());
+        for (int rest = 18, points = 3; points <= 6; points++) {
+            Check.due("the rest", rest, x.value());
+            Check.due("one tile", points, x.playListed(x.solved()));
+            rest -= points;
+            Check.due("over", points == 6, x.isOver());
+            if (points < 6) {
+                x.pass();
+            }
+        }
+        Check.due("it comes so", 2 + 18, x.score(0));
     }
 
     private static void held(String what, long upper, long lower, Lexirack x, char letter) {
