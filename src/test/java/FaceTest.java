@@ -1,12 +1,16 @@
+import java.io.IOException;
 import java.lang.reflect.Constructor;
 import java.lang.reflect.Field;
 import java.lang.reflect.Method;
 import java.lang.reflect.Modifier;
+import java.nio.file.Files;
+import java.nio.file.Path;
 import java.util.Set;
 import java.util.TreeSet;
 
 /** The face of the class is that of the document, and nothing more of it can be seen. */
 public final class FaceTest {
+    private static final Path DOCUMENT = Path.of("../shared/DOC.md");
     private static final String FACE = """
         int type(char) throws IllegalArgumentException, IllegalStateException
         int wipe()
@@ -61,8 +65,10 @@ public final class FaceTest {
 
     private static int wrong = 0;
 
-    public static void main(String[] args) {
+    public static void main(String[] args) throws IOException {
         Set<String> due = new TreeSet<>(Set.of(FACE.strip().split("\n")));
+        Set<String> document = faceOfDocument();
+        check(due.equals(document), "the methods of the document are " + document + ", looked for are " + due);
         Set<String> got = new TreeSet<>();
         for (Method method : Lexirack.class.getDeclaredMethods()) {
             if (!Modifier.isPrivate(method.getModifiers())) {
@@ -81,6 +87,17 @@ public final class FaceTest {
         if (wrong != 0) {
             System.exit(1);
         }
+    }
+
+    /** The lines of its Java block that end with a semicolon, but for the import and the constructor. */
+    private static Set<String> faceOfDocument() throws IOException {
+        Set<String> face = new TreeSet<>();
+        for (String line : Files.readAllLines(DOCUMENT)) {
+            if (line.startsWith("    public ") && line.endsWith(";") && !line.contains(" Lexirack(")) {
+                face.add(line.strip().replaceAll("^public |;$", "").replaceAll("(int|boolean|char) \\w+(?=[,)])", "$1"));
+            }
+        }
+        return face;
     }
 
     private static void checkHidden() {
